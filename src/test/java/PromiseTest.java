@@ -208,6 +208,9 @@ public final class PromiseTest {
         due("they are all", x.count(4), 2);
         due("straw from 0 on", x.ice(4, 0), 9);
         due("thaw in 5", x.ice(5, 0), 8);
+        lay(x, 2, 2, 1, 0, 0);
+        due("one, and no item more", x.read(2), 1);
+        due("the weeks are others at once", x.ice(0, 0), 7);
         lay(x, 2, 2, 0, 0, 0, 0, 24, 0, 1, 1, 1);
         due("till one may not be", x.read(2), 1);
         lay(x, 2, 2, 0, 0, 0, 0, 0, -1);
@@ -292,6 +295,17 @@ public final class PromiseTest {
         due("three sides, door, thaw", z.ice(0, 1), 3);
         z.event(STRAW, 0, 1);
         due("two sides, thaw", z.ice(0, 1), 2);
+        IceHouse dry = house("9;9;9;9;9;9", "");
+        for (int c = 0; c < 6; c++) dry.event(STRAW, 0, c);
+        dry.event(DOOR, 0, 0);
+        dry.event(THAW, 0, 0);
+        due("no free side, no water", dry.ice(0, 1), 0);
+        dry.back();
+        dry.event(THAW, 23, 0);
+        dry.wipe(0);
+        typeAll(dry, 0, "9;9;9;9;9");
+        due("one side, in the last week", dry.ice(23, 1), 1);
+        due("till then none", dry.ice(22, 0), 45);
         for (int v : new int[] {-1, 24, LEAST, MOST}) due("week", x.ice(v, 0), BAD);
         for (int v : new int[] {-1, 2, LEAST, MOST}) due("what", x.ice(0, v), BAD);
     }
@@ -362,6 +376,17 @@ public final class PromiseTest {
         due("of like ones the least", x.tall(), 3);
         due("lower for the free sides", x.column(23, 2, 0), 5);
         due("none is high", new IceHouse().tall(), 0);
+        IceHouse y = house("9;99;9", "");
+        for (int c = 0; c < 3; c++) y.event(STRAW, 0, c);
+        due("free at both sides, it is no higher in the end", y.tall(), 0);
+        IceHouse z = house("9;99;99;9", "");
+        for (int c = 0; c < 4; c++) z.event(STRAW, 0, c);
+        due("free at one side each, two stay: the less", z.tall(), 1);
+        IceHouse last = house("8", "");
+        last.event(STRAW, 0, 0);
+        for (int week = 17; week < 24; week++) last.event(THAW, week, 0);
+        due("one is left behind week 23", last.count(5), 1);
+        due("the first", last.tall(), 0);
     }
 
     private static void drains() {
@@ -372,6 +397,11 @@ public final class PromiseTest {
         x.event(THAW, 3, 0);
         due("the thaw", x.drain(0), 3);
         due("how much", x.drain(1), 4);
+        IceHouse y = house("9;9;9;9;9;9", "b1");
+        for (int c = 0; c < 6; c++) y.event(STRAW, 0, c);
+        y.event(THAW, 1, 0);
+        due("week 1", y.drain(0), 1);
+        due("by one side", y.drain(1), 1);
         due("what", x.drain(2), BAD);
         due("what", x.drain(-1), BAD);
     }
@@ -420,6 +450,15 @@ public final class PromiseTest {
         IceHouse y = house("9", "c9;d9");
         due("the least week", y.later(1, 0), 0);
         due("one is short all the same", y.later(1, 1), 1);
+        IceHouse none = house("", "x1;x1;x1;x1;x1;x1;x1;x1;x1;x1;x1;x1");
+        due("all are short", none.later(11, 0), 0);
+        due("all are short", none.later(11, 1), 12);
+        IceHouse dry = house("9", "c9");
+        dry.event(DOOR, 0, 0);
+        due("ahead of the door", dry.later(0, 0), 0);
+        dry.wipe(1);
+        typeAll(dry, 1, "c9;a1");
+        due("the door counts", dry.later(1, 1), 1);
         due("no such order", x.later(2, 0), BAD);
         due("no such order", x.later(-1, 0), BAD);
         due("what", x.later(0, 2), BAD);
@@ -449,6 +488,11 @@ public final class PromiseTest {
         IceHouse y = house("1", "a2");
         y.event(STRAW, 0, 0);
         spare(y, NONE, NONE, NONE);
+        IceHouse z = house("9", "b8");
+        z.event(DOOR, 0, 0);
+        spare(z, 1, 0, NONE);
+        z.event(THAW, 0, 0);
+        spare(z, 2, 0, 1);
         due("i", x.spare(2), BAD);
         due("i", x.spare(-2), BAD);
     }
@@ -508,6 +552,11 @@ public final class PromiseTest {
         due("none", x.size(0, 0), 0);
         due("nothing is changed by it", x.told(0, 0), 2);
         noBlock(x, false);
+        due("a height is not the next column", house("2;2", "").size(0, 6), BAD);
+        IceHouse y = house("2", "");
+        y.event(STRAW, 1, 0);
+        y.seen(23, 0, 1);
+        due("events are as told", y.size(0, 0), 1020);
     }
 
     private static void noBlock(IceHouse x, boolean asked) {
@@ -525,6 +574,9 @@ public final class PromiseTest {
         due("4 or 5", x.ask(0, 0), 3);
         x.seen(0, 5, 1);
         due("none: the least week", x.ask(0, 0), 0);
+        IceHouse y = house("2", "");
+        y.event(STRAW, 0, 0);
+        due("all alike: the least week", y.ask(0, 0), 0);
         noBlock(x, true);
     }
 
@@ -574,6 +626,7 @@ public final class PromiseTest {
         typeAll(x, 1, "b8");
         due("none is short", x.summers(94, 0, 1), 0);
         due("by a door in week 0", x.summers(94, 1, 1), 1);
+        due("eight events", x.summers(94, 8, 1), 1);
         due("n", x.summers(0, 9, 0), BAD);
         due("n", x.summers(0, -1, 0), BAD);
         due("what", x.summers(0, 0, 2), BAD);
@@ -705,6 +758,7 @@ public final class PromiseTest {
         due("the rest stays", x.get(1, 1, 24), 77);
         x.sheet(2, 2, 0);
         due("none", x.write(0, 2), 0);
+        due("the last column", x.write(5, 2), 0);
         due("lost", x.write(0, 3), NULL);
         due("a finding", x.count(8), 1);
         due("column ahead of null", x.write(6, 3), BAD);
@@ -782,6 +836,10 @@ public final class PromiseTest {
         due("by calls", y.digest(), digestByCalls(y));
         y.back();
         due("by calls, after a change", y.digest(), digestByCalls(y));
+        y.undo(1);
+        due("by calls, with a fault", y.digest(), digestByCalls(y));
+        typeAll(y, 0, "9x");
+        due("by calls, with two faults", y.digest(), digestByCalls(y));
     }
 
     private static void refusalsChangeNothing() {
