@@ -67,7 +67,9 @@ public final class FormTest {
         must(made.length == 1 && made[0].getParameterCount() == 0 && Modifier.isPublic(made[0].getModifiers()), "rule 1: constructor");
         Set<String> constants = new TreeSet<>();
         for (Field f : IceHouse.class.getDeclaredFields())
-            if (!Modifier.isPrivate(f.getModifiers())) constants.add(Modifier.toString(f.getModifiers()) + " " + f.getName() + " " + f.get(null));
+            if (!Modifier.isPrivate(f.getModifiers()))
+                constants.add(Modifier.toString(f.getModifiers()) + " " + f.getName()
+                    + (Modifier.isStatic(f.getModifiers()) ? " " + f.get(null) : ""));
         must(constants.equals(new TreeSet<>(List.of("public static final NONE -1", "public static final BAD -2",
             "public static final NOT -3", "public static final FULL -4"))), "rule 1: constants " + constants);
     }
