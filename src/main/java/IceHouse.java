@@ -127,7 +127,7 @@ public final class IceHouse {
             return found(NULL);
         }
         Events events = book.events;
-        events.number = 0;
+        int before = events.number;
         for (int i = 0; i + 2 < sheet.length && events.number < MOST_EVENTS; i += 3) {
             int kind = sheet.items[i], week = sheet.items[i + 1], number = sheet.items[i + 2];
             if (!Events.mayBe(kind, week, number)) {
@@ -136,7 +136,7 @@ public final class IceHouse {
             events.append(kind, week, number);
         }
         noteChange();
-        return events.number;
+        return events.number - before;
     }
 
     // ---- weeks

@@ -225,10 +225,10 @@ final class Oracle {
     public int read(int s) {
         if (!in(s, 0, 3)) return -2;
         if (sheets[s] == null) return find(1);
-        events.clear();
-        for (int e = 0; 3 * e + 3 <= items(s); e++)
-            if (event(item(s, 3 * e), item(s, 3 * e + 1), item(s, 3 * e + 2)) < 0) break;
-        return events.size();
+        int came = 0;
+        while (3 * came + 3 <= items(s) && event(item(s, 3 * came), item(s, 3 * came + 1), item(s, 3 * came + 2)) > 0)
+            came++;
+        return came;
     }
 
     public int column(int week, int column, int what) {

@@ -202,7 +202,6 @@ public final class PromiseTest {
     private static void readings() {
         promise = 10;
         IceHouse x = house("9", "");
-        x.event(THAW, 0, 0);
         lay(x, 1, 0, 2, 0, 0, 1, 5, 5, 0, 6);
         due("two are whole", x.read(1), 2);
         due("they are all", x.count(4), 2);
@@ -210,22 +209,47 @@ public final class PromiseTest {
         due("thaw in 5", x.ice(5, 0), 8);
         lay(x, 2, 2, 1, 0, 0);
         due("one, and no item more", x.read(2), 1);
-        due("the weeks are others at once", x.ice(0, 0), 7);
+        due("it comes to the two", x.count(4), 3);
         lay(x, 2, 2, 0, 0, 0, 0, 24, 0, 1, 1, 1);
         due("till one may not be", x.read(2), 1);
         lay(x, 2, 2, 0, 0, 0, 0, 0, -1);
         due("till one may not be", x.read(2), 1);
+        due("five", x.count(4), 5);
         lay(x, 2, 2, 3, 0, 0, 0, 0, 0);
         due("not even the first", x.read(2), 0);
-        x.sheet(3, 1, 60);
-        due("eight at most", x.read(3), 8);
+        due("the five are left", x.count(4), 5);
         x.sheet(3, 1, 0);
         due("none", x.read(3), 0);
-        due("none is left", x.count(4), 0);
+        due("the five are left", x.count(4), 5);
         due("lost", x.read(0), NULL);
         due("a finding", x.count(8), 1);
         due("no such sheet", x.read(4), BAD);
         due("no such sheet", x.read(-1), BAD);
+        due("the five are left", x.count(4), 5);
+        readingsComeToThoseTold();
+    }
+
+    private static void readingsComeToThoseTold() {
+        IceHouse x = house("9", "");
+        x.event(THAW, 0, 0);
+        due("thaw in 0", x.ice(0, 0), 7);
+        lay(x, 0, 2, 0, 0, 0);
+        due("one comes", x.read(0), 1);
+        due("thaw and door, at once", x.ice(0, 0), 6);
+        due("what came last goes first", x.back(), 1);
+        due("the thaw is left", x.ice(0, 0), 7);
+        x.sheet(3, 1, 60);
+        due("seven more may be, of twenty", x.read(3), 7);
+        due("eight at most", x.count(4), 8);
+        due("none more may be", x.read(3), 0);
+        due("eight at most", x.count(4), 8);
+        due("no finding", x.count(8), 0);
+        due("the first is left", x.ice(0, 0), 6);
+        x.back();
+        due("one more may be", x.read(0), 1);
+        IceHouse y = new IceHouse();
+        y.sheet(0, 2, 60);
+        due("eight of twenty", y.read(0), 8);
     }
 
     private static void columns() {
