@@ -14,7 +14,8 @@ final class RefusalBoundaries extends Boundaries {
     /** Nothing more has room in it: both texts, events and what was seen are full; sheet 3 is lost. */
     private static Tale full() {
         Tale x = tale(SIX_BY_SIX, TWELVE, straw(0, 0), thaw(0), door(1), thaw(2), straw(3, 4), thaw(9), door(9), thaw(23));
-        for (int n = 0; n < 8; n++) x.call("seen", n, n % 6, 6);
+        // seen as it is, so that anything told otherwise tells on itself by what fits
+        for (int n = 0; n < 8; n++) x.call("seen", n, n % 6, (int) x.call("column", n, n % 6, 0));
         return x.row(0, BYTES, 1, 2, 3).row(1, SHORTS, 4, 5, 6).row(2, INTS, 7, 8, 9);
     }
 

@@ -263,6 +263,8 @@ final class ToldBoundaries extends Boundaries {
             Tale x = tale("9999", door(week));
             for (int w = 0; w < 24; w++) x.due(w == week ? 2 : 1, "ice", w, 1);
         }
+        Tale two = tale("9999", door(2), door(5));
+        for (int w = 0; w < 24; w++) two.due(w == 2 || w == 5 ? 2 : 1, "ice", w, 1);
     }
 
     private static void thawInIt() {
@@ -274,6 +276,8 @@ final class ToldBoundaries extends Boundaries {
             for (int w = 0; w <= week; w++) x.due(w == week ? 1 + high : 1, "ice", w, 1);
             if (week < 23) x.due(1, "ice", week + 1, 1);
         }
+        Tale two = tale("9999", thaw(2), thaw(5));
+        for (int w = 0; w < 7; w++) two.due(w == 2 || w == 5 ? 5 : 1, "ice", w, 1);
         for (int number = 0; number < 6; number++) {
             tale("99", new int[] {DOOR, 0, number}).due(2, "ice", 0, 1);
             tale("99", new int[] {THAW, 0, number}).due(3, "ice", 0, 1);

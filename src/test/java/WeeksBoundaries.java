@@ -167,6 +167,10 @@ final class WeeksBoundaries extends Boundaries {
         six.due(9, "block", 0, 2, 4);
         six.due(8, "block", 0, 2, 5);
         tale("99;99;99", thaw(0), straw(0, 1)).due(9, "block", 0, 1, 1);
+        // its right is free, and its top, if it were, would make a 1 of it
+        tale("99").due(9, "block", 0, 0, 0);
+        tale("99;99", straw(0, 1)).due(9, "block", 0, 1, 1);
+        tale("99;99").due(8, "block", 0, 1, 1);
     }
 
     private static void freeLeftAndRight() {
@@ -184,6 +188,9 @@ final class WeeksBoundaries extends Boundaries {
         Tale both = tale("9;99;9", straw(0, 1));
         both.due(9, "block", 0, 1, 0);
         both.due(8, "block", 0, 1, 1);
+        // beside it one column is as high, the other bare: to the ground a side is free
+        tale("99;99", thaw(0)).due(8, "block", 0, 1, 0);
+        tale(";;;;99;99", thaw(0)).due(8, "block", 0, 4, 0);
         Tale higher = tale("99;9;99", thaw(0), straw(0, 1));
         higher.due(9, "block", 0, 1, 0);
         Tale highest = tale("99999;999999;99999", straw(0, 1));
