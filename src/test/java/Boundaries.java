@@ -54,7 +54,7 @@ abstract class Boundaries {
         if (!holds) tell(String.join("\n    ", tale.latestRows()) + ", " + what);
     }
 
-    /** How many answers were not as due; and is there a boundary that no sentence was quoted for? */
+    /** How many answers were not as due; a word of the document that no test quotes is one more. */
     static int end() {
         endSentence();
         sentence = "the document";

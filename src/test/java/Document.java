@@ -14,12 +14,9 @@ import java.util.regex.Pattern;
 /** The document's sections, and which of their words a test has quoted. */
 final class Document {
     private static final Path FILE = Path.of("../shared/DOC.md");
-    /** Sections that promise nothing by a boundary: the face is FormTest's. */
+    /** The face is FormTest's. */
     private static final Set<String> LEFT_OUT = Set.of("The public face", "Not promised");
-    /** By such words a sentence names a boundary case. */
-    private static final Pattern NAMES_A_BOUNDARY = Pattern.compile("\\b(BAD|NULL|NOT|FULL|CAST|INDEX|STORE|SIZE|NONE|LOST|"
-        + "FAULT|at most|up to|at first|least|fewest|fewer|greatest|highest|most|last|latest|first|none|no|not|nothing|empty|"
-        + "till|as long as|less|lower|lowest|above|below|wrap|cut|any|each|all|alone|whatever|\\d+)\\b");
+    private static final Pattern WORD = Pattern.compile("\\w+");
 
     private final Map<String, String> sections = new LinkedHashMap<>();
     private final Map<String, boolean[]> quoted = new LinkedHashMap<>();
@@ -35,10 +32,12 @@ final class Document {
         }
     }
 
-    /** Without what isn't a sentence: the tale that the document begins with, signatures, fences, numbers of parts, and which calls stand under which heading. */
+    /** Without what holds the class to nothing: the tale at the beginning, signatures, headings, what is free. */
     private static String bare(String section) {
-        return section.replaceAll("An ice house: .*(?=========)", "").replaceAll("(?m)^`(int|long|IceHouse)\\b[^`]*`: ", "").replaceAll("```\\w*", "")
-            .replaceAll("(?m)^Ahead of the calls.*$", "").replaceAll("======== \\d+", "").replaceAll("\\s+", " ").strip();
+        return section.replaceAll("An ice house: .*(?=========)", "").replaceAll("======== \\d+", "")
+            .replaceAll("(?m)^`(int|long|IceHouse)\\b[^`]*`: ", "").replaceAll("```\\w*", "")
+            .replaceAll("(?m)^Ahead of the calls.*$", "").replace("; what later calls answer is free.", "")
+            .replaceAll("\\s+", " ").strip();
     }
 
     /** Whether the words stand in the section; they are quoted then, wherever they stand in it. */
@@ -50,16 +49,16 @@ final class Document {
         return place >= 0;
     }
 
-    /** Every place at which the document names a boundary case in words that no test has quoted. */
+    /** Every word that stands in no sentence that a test has quoted, with what stands around it. */
     List<String> left() {
         List<String> left = new ArrayList<>();
         for (Map.Entry<String, String> section : sections.entrySet()) {
             String text = section.getValue();
-            Matcher named = NAMES_A_BOUNDARY.matcher(text);
-            while (named.find())
-                if (!quoted.get(section.getKey())[named.start()])
-                    left.add(section.getKey() + ": .. " + text.substring(Math.max(0, named.start() - 30),
-                        Math.min(text.length(), named.end() + 30)) + " ..");
+            Matcher word = WORD.matcher(text);
+            while (word.find())
+                if (!quoted.get(section.getKey())[word.start()])
+                    left.add(section.getKey() + ": .. " + text.substring(Math.max(0, word.start() - 30),
+                        Math.min(text.length(), word.end() + 30)) + " ..");
         }
         return left;
     }
